@@ -780,7 +780,7 @@ public final class GreatCambric {
         return best;
     }
 
-    /** The place of the first number that isn't WET of all as it is thought behind 1, 2, .. YEARS; -1: there is none. */
+    /** The place of the first number that isn't WET of all in thought behind 1, 2, .. YEARS; -1: none. */
     private int firstUntrue(Row told) {
         for (int i = 0; i < told.length; i++) {
             thought.passYear();
@@ -1091,8 +1091,11 @@ public final class GreatCambric {
         private void dryOut() {
             int tornOrDry = tornOrDry();
             for (int c = 0; c < CELLS; c++) {
-                int n = Integer.bitCount(beside(c) & tornOrDry);
-                wet[c] = held(wet[c] - given(DRIES, wet[c], n, year % 8));
+                // What is dry stays so, whatever the TEXT gives: it needn't be worked out.
+                if (wet[c] > 0) {
+                    int n = Integer.bitCount(beside(c) & tornOrDry);
+                    wet[c] = held(wet[c] - given(DRIES, wet[c], n, year % 8));
+                }
             }
         }
 

@@ -59,6 +59,11 @@ public final class LanguageTest {
             }
         }
         Due.due("the face: " + open, 1, open.equals(new TreeSet<>(FACE)) ? 1 : 0);
+        for (Class<?> c : GreatCambric.class.getDeclaredClasses()) {
+            for (Method m : c.getDeclaredMethods()) {
+                Due.due(m + " is a public one's name", 0, names.contains(m.getName()) ? 1 : 0);
+            }
+        }
         for (Field f : GreatCambric.class.getDeclaredFields()) {
             Due.due(f.getName() + " hidden", 1, hidden(f.getModifiers()) ? 1 : 0);
         }

@@ -14,8 +14,14 @@ public final class PromiseTest {
     }
 
     private static void feed(GreatCambric x, String t) {
-        for (int i = 0; i < t.length(); i++) {
-            due(x.count(7) + 1, x.feed(t.charAt(i), 1));
+        int there = x.count(7);
+        for (int i = 0; i < t.length(); i += 8) {
+            int n = Math.min(8, t.length() - i);
+            long word = 0;
+            for (int k = 0; k < n; k++) {
+                word |= (long) t.charAt(i + k) << 8 * k;
+            }
+            due(there + i + n, x.feed(word, n));
         }
     }
 
@@ -249,15 +255,36 @@ public final class PromiseTest {
         x.years(1);
         due(0, x.ofMourner(5, 6));
         due(2, x.ofMourner(2, 6));
+        x.years(1);
+        due(2, x.ofMourner(5, 6));
+        x.years(1);
+        due(0, x.ofMourner(5, 6));
+        int[] thirds = {5, 5, 5, 6, 6, 6, 7, 7, 7, 8};
+        for (int m = 0; m < 10; m++) {
+            x.become(6, 40 + m);
+            due(thirds[m], x.ofMourner(6, 6));
+        }
         due(BEYOND, x.ofMourner(7, 0));
         due(BEYOND, x.ofMourner(-1, 0));
         due(BEYOND, x.ofMourner(0, 7));
         due(BEYOND, x.ofMourner(0, -1));
         // What the TEXT gives is eased, not what the KIND weeps; y is the rest of YEAR by 8.
         due(1, text(x, 0, "s+y"));
-        due(55, x.ofMourner(1, 2));
+        x.change(1, 0, 55);
+        due(58, x.ofMourner(1, 4));
+        due(29, x.ofMourner(1, 5));
+        x.years(5);
+        x.change(1, 0, 55);
+        due(55, x.ofMourner(1, 4));
+        x.years(1);
+        x.change(1, 0, 55);
         due(56, x.ofMourner(1, 4));
-        due(28, x.ofMourner(1, 5));
+        // y is the rest of YEAR 9 where it is dried, too.
+        due(1, text(x, 1, "y"));
+        x.sheet(0, 8, 16);
+        x.wets(0);
+        x.cell(0, 0, 9);
+        due(8, x.then(1, 0));
     }
 
     private static void change() {
@@ -360,6 +387,7 @@ public final class PromiseTest {
         int[] at = {
             2, 1, 2, 1, 2, 2, 2, 5, 5, 5, 4, 1, 3, 0, 0, 0, 0, 1, 1, 1, 1, 1, 2, 2, 1, 1, 10, 0, 1
         };
+        x = new GreatCambric();
         due(1, text(x, 0, "41"));
         for (int i = 0; i < bad.length; i++) {
             Due.due(bad[i], -10 - at[i], text(x, 0, bad[i]));
@@ -393,13 +421,15 @@ public final class PromiseTest {
         due(BEYOND, x.law(-1, 0, 0, 0));
         String[] texts = {
             "w-s-y", "w/s*y", "w%s", "w/y", "w%y", "w+s*2", "(w+s)*2", "w<s", "s<w", "w=20", "w>s", "!w", "!y", "!w+1", "w&y",
-            "w&s", "y|s", "y|y", "9999*9999", "9999*9999*9999", "0-w/s*0-7", "1+2<4&3", "!5*2+7", "1-w+25"
+            "w&s", "w<w", "w>w", "s>w", "w=s", "0", "y|s", "y|y", "9999*9999", "9999*9999*9999", "0-w/s*0-7", "1+2<4&3", "!5*2+7", "1-w+25"
         };
-        int[] gives = {17, 0, 2, 0, 0, 26, 46, 0, 1, 1, 1, 0, 1, 1, 0, 1, 1, 0, 99, 0, 0, 1, 7, 6};
+        int[] gives = {17, 0, 2, 0, 0, 26, 46, 0, 1, 1, 1, 0, 1, 1, 0, 1, 0, 0, 0, 0, 0, 1, 0, 99, 0, 0, 1, 7, 6};
         for (int i = 0; i < texts.length; i++) {
             due(1, text(x, 0, texts[i]));
             Due.due(texts[i], gives[i], x.law(0, 20, 3, 0));
         }
+        due(1, text(x, 0, "0"));
+        due(0, x.law(0, 7, 7, 7));
         // Ints that wrap: 65536 * 65536 is 0, 2147483647 + 1 lies below 0, what is cut is cut toward 0.
         due(1, text(x, 0, "w*w"));
         due(0, x.law(0, 65536, 0, 0));
@@ -520,6 +550,15 @@ public final class PromiseTest {
         GreatCambric h = oneMourner();
         h.cell(5, 0, 99);
         due(92, h.years(1));
+        // By just 10, whichever of the two is the more WET.
+        GreatCambric j = new GreatCambric();
+        j.cell(14, 0, 5);
+        j.cell(15, 0, 15);
+        j.cell(11, 0, 6);
+        j.years(1);
+        due(3, j.ofCell(14, 0));
+        due(11, j.ofCell(15, 0));
+        due(3, j.ofCell(11, 0));
         // 3 and 4 aren't BESIDE one another.
         GreatCambric e = new GreatCambric();
         e.cell(3, 0, 40);
@@ -564,6 +603,21 @@ public final class PromiseTest {
         due(2, x.count(1));
         due(42 - 5 + 2, x.ofMourner(4, 2));
         due(44, x.ofMourner(3, 2));
+        // 40 are allowed, and YEAR 9999.
+        GreatCambric late = new GreatCambric();
+        due(0, late.loose(40));
+        due(40, late.count(1));
+        for (int i = 0; i < 165; i++) {
+            late.years(60);
+        }
+        due(9940, late.count(1));
+        late.years(20);
+        due(STATE, late.loose(40));
+        int z = late.count(10);
+        due(STATE, late.loose(40));
+        due(z, late.count(10));
+        due(0, late.loose(39));
+        due(9999, late.count(1));
     }
 
     private static void then() {
@@ -689,6 +743,8 @@ public final class PromiseTest {
         x.change(3, 0, 80);
         due(0, x.comesFor(0, 1));
         due(0, x.ofList(0));
+        due(0, x.comesFor(5, 0));
+        due(1, oneMourner().comesFor(5, 6));
         due(BEYOND, x.comesFor(6, 0));
         due(BEYOND, x.comesFor(-1, 0));
         due(BEYOND, x.comesFor(0, 61));
@@ -765,11 +821,13 @@ public final class PromiseTest {
         Due.of("promise 24");
         GreatCambric x = new GreatCambric();
         for (int c = 0; c < 16; c++) {
-            int top = x.topFor(c);
-            due(15, x.folded(top, c, 1));
-            // None of 4 FOLDS below it does.
-            for (int f = 11111; f < Math.min(top, 11111 + 16); f++) {
-                due(0, x.folded(f, c, 1) == 15 ? 1 : 0);
+            GreatCambric one = new GreatCambric();
+            int top = one.topFor(c);
+            due(15, one.folded(top, c, 1));
+            for (int lesser = 11111; lesser < top; lesser++) {
+                if (Integer.toString(lesser).matches("1[1-4]{4}")) {
+                    Due.due("TOP FOR " + c + ": " + lesser, 0, one.folded(lesser, c, 1) == 15 ? 1 : 0);
+                }
             }
         }
         // 15 stays below by 1 and 1 (it lies right), and by 3; 4 folds the lower half over the upper one.
@@ -887,6 +945,8 @@ public final class PromiseTest {
         // TORN ones are dried, too.
         x.cell(5, 1, 1);
         due(1 << 5, x.game(1));
+        x.cell(5, 0, 0);
+        due(0, x.game(0));
         // A square of four: whatever is dried can be answered across.
         GreatCambric s = new GreatCambric();
         s.cell(0, 0, 1);
